@@ -1,0 +1,53 @@
+/** Counts wrong answers and prints them; a test ends by done(). */
+final class Checks {
+    private int wrong = 0;
+    private int made = 0;
+
+    void same(String what, long got, long due) {
+        made++;
+        if (got != due) {
+            wrong++;
+            if (wrong <= 50) {
+                System.out.println(what + " answered " + got + ", due is " + due);
+            }
+        }
+    }
+
+    void same(String what, boolean got, boolean due) {
+        same(what, got ? 1 : 0, due ? 1 : 0);
+    }
+
+    void index(String what, Runnable call) {
+        refuses(what, call, IndexOutOfBoundsException.class);
+    }
+
+    void argument(String what, Runnable call) {
+        refuses(what, call, IllegalArgumentException.class);
+    }
+
+    /** The very class: what the Java machine throws by itself is of a class below these. */
+    private void refuses(String what, Runnable call, Class<?> due) {
+        Class<?> got = null;
+        try {
+            call.run();
+        } catch (RuntimeException e) {
+            got = e.getClass();
+        }
+        made++;
+        if (got != due) {
+            wrong++;
+            System.out.println(what + " threw " + got + ", due is " + due);
+        }
+    }
+
+    boolean anyWrong() {
+        return wrong > 0;
+    }
+
+    void done(String test) {
+        System.out.println(test + ": " + made + " answers, " + wrong + " of them wrong");
+        if (wrong > 0 || made == 0) {
+            System.exit(1);
+        }
+    }
+}
