@@ -959,7 +959,7 @@ public final class StepMachines {
         private static final int TAKE_LONGEST = 2;
         private static final int TAKE_WHOLE = 3;
 
-        /** A byte of each kind that an assertion can tell from the others. */
+        /** None, and a byte of each sort that an assertion can tell from the others: a 10, a WORD byte, any other. */
         private static final int[] BEFORE = {-1, 10, 97, 0};
         private static final int NO_BYTE = BYTE_VALUES;
         private static final int NOWHERE = -1;

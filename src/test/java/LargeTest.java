@@ -1,0 +1,124 @@
+import java.lang.management.ManagementFactory;
+import java.util.Random;
+
+/** Programs of 200 steps over 200 bytes: the machines agree, none takes too many steps, and the room suffices. */
+public final class LargeTest {
+    /** 7.3 million fields and elements would be some 30 million bytes: a run is to need but a part. */
+    private static final long MOST_ROOM = 4000000;
+
+    private static final Checks checks = new Checks();
+    private static final Random random = new Random(77);
+
+    public static void main(String[] args) {
+        for (int round = 0; round < 60; round++) {
+            StepMachines x = new StepMachines();
+            x.lay(200);
+            throwTogether(x, round);
+            for (int i = 0; i < 25; i++) {
+                x.put(0x6161616161616161L + (round % 2 == 0 ? 0 : random.nextInt(2) << 8 * random.nextInt(3)), 8);
+            }
+            askAll("round " + round, x);
+        }
+        nestedLoops();
+        room();
+        checks.done("LargeTest");
+    }
+
+    private static void throwTogether(StepMachines x, int round) {
+        for (int k = 1; k < 200; k++) {
+            int pick = random.nextInt(20);
+            int kind = pick < 6 + round % 5 ? 1 : pick < 15 ? 2 : pick < 18 ? 3 : pick < 19 ? 4 : 5;
+            int value = kind == 1 ? 'a' * 256 + 'a' + random.nextInt(2) : kind == 3 ? 2 + random.nextInt(18) : 5;
+            x.step(k, kind, value, step(k, round), step(k, round));
+        }
+        x.begin(199);
+    }
+
+    /** The END is seldom a next step, so that ways are long. */
+    private static int step(int k, int round) {
+        if (random.nextInt(400) == 0) {
+            return 0;
+        }
+        return round % 3 == 0 ? 1 + random.nextInt(199) : Math.max(1, k - random.nextInt(5));
+    }
+
+    private static void askAll(String where, StepMachines x) {
+        for (int how = 0; how < 3; how++) {
+            for (int from = 0; from <= 200; from += 67) {
+                for (int l = 0; l < 2; l++) {
+                    ask(where, x, how, l == 1, from);
+                }
+            }
+        }
+        checks.same(where + " over()", x.over(), 0);
+    }
+
+    private static void ask(String where, StepMachines x, int how, boolean longest, int from) {
+        String call = where + " (" + how + ", " + longest + ", " + from + ")";
+        int end = x.match(how, longest, 0, from);
+        int[] saved = new int[20];
+        for (int k = 0; k < 20; k++) {
+            saved[k] = x.saved(k);
+        }
+        for (int machine = 1; machine < 3; machine++) {
+            checks.same(call + " by " + machine, x.match(how, longest, machine, from), end);
+            for (int k = 0; k < 20; k++) {
+                checks.same(call + " by " + machine + " saved(" + k + ")", x.saved(k), saved[k]);
+            }
+        }
+        if (how != 0 || !longest) {
+            checks.same(call + " ends", x.ends(how, longest, from), end);
+            x.keep(4 + random.nextInt(61));
+        }
+    }
+
+    /** ((((a*)*)*)*)* with no END behind it: ways without number, but few steps. */
+    private static void nestedLoops() {
+        StepMachines x = new StepMachines();
+        x.lay(200);
+        for (int k = 2; k < 200; k++) {
+            x.step(k, 2, 0, k - 1, k == 199 ? 2 : k + 1);
+        }
+        x.step(1, 1, 'a' * 256 + 'a', 199, 0);
+        x.begin(199);
+        for (int i = 0; i < 25; i++) {
+            x.put(0x6161616161616161L, 8);
+        }
+        askAll("nested loops", x);
+        checks.same("nested loops have no END", x.match(0, true, 1, 0), -1);
+        x.step(2, 2, 0, 1, 0);
+        askAll("nested loops with an END", x);
+        checks.same("nested loops with an END", x.match(0, false, 2, 0), 200);
+    }
+
+    /** Programs and subjects that grow between dear calls, and new objects between them. */
+    private static void room() {
+        com.sun.management.ThreadMXBean bean =
+                (com.sun.management.ThreadMXBean) ManagementFactory.getThreadMXBean();
+        long thread = Thread.currentThread().getId();
+        dearCalls(new StepMachines(), 8);
+        long before = bean.getThreadAllocatedBytes(thread);
+        dearCalls(new StepMachines(), 512);
+        long one = bean.getThreadAllocatedBytes(thread) - before;
+        checks.same("one object's 512 calls take little room: " + one, one < MOST_ROOM, true);
+        for (int i = 0; i < 64; i++) {
+            dearCalls(new StepMachines(), 8);
+        }
+        long many = bean.getThreadAllocatedBytes(thread) - before - one;
+        checks.same("64 objects' 8 calls take little room: " + many, many < 5 * MOST_ROOM, true);
+        System.out.println("bytes for 512 dear calls: " + one + " on one object, " + many + " on 64");
+    }
+
+    private static void dearCalls(StepMachines x, int calls) {
+        for (int i = 0; i < calls; i += 8) {
+            x.lay(Math.min(200, 8 + i));
+            x.put(0L, Math.min(8, i / 8));
+            x.keep(4 + i % 61);
+            x.match(0, true, 0, 0);
+            x.match(0, true, 1, 0);
+            x.match(1, true, 2, 0);
+            x.isOneWay();
+            x.ends(0, false, 0);
+        }
+    }
+}
