@@ -2,7 +2,8 @@ import java.util.Arrays;
 
 /**
  * Programs of small steps over bytes and the machines that run them. Every machine answers the same; they
- * differ in how they come to the answer. Rows are made once, when a machine is first needed, and used again.
+ * differ in how they come to the answer. All rows are made with the object, for the largest program and subject
+ * there can be, and used again: no call makes any.
  */
 public final class StepMachines {
     public static final int NONE = -1;
@@ -44,13 +45,10 @@ public final class StepMachines {
     private final Subject subject = new Subject();
     private final Tally tally = new Tally();
     private final int[] latest = new int[PLACES];
-    private int mostStates = STATES_AT_FIRST;
-
-    /** The machines are made when they are first needed: their rows are by far the most of an object. */
-    private Threads threads = null;
-    private Marks marks = null;
-    private Table table = null;
-    private States states = null;
+    private final Threads threads = new Threads(program, subject, tally, latest);
+    private final Marks marks = new Marks(program, subject, tally, latest);
+    private final Table table = new Table(program, subject, tally, latest);
+    private final States states = new States(program, subject, tally);
 
     public StepMachines() {
         Arrays.fill(latest, NONE);
@@ -117,11 +115,11 @@ public final class StepMachines {
         Arrays.fill(latest, NONE);
         tally.open();
         if (machine == BY_MARKS) {
-            readyMarks().run(how, longest, from);
+            marks.run(how, longest, from);
         } else if (machine == BY_TABLE && canTable(how)) {
-            readyTable().run(how, longest, from);
+            table.run(how, longest, from);
         } else {
-            readyThreads().run(how, longest, from);
+            threads.run(how, longest, from);
         }
         tally.close(mostTaken());
         return latest[1];
@@ -138,9 +136,6 @@ public final class StepMachines {
         if (longest && how == ANYWHERE) {
             throw new IllegalArgumentException("states do not find the longest anywhere");
         }
-        if (states == null) {
-            states = new States(program, subject, tally, mostStates);
-        }
         tally.open();
         int end = states.run(how, longest, from);
         tally.close(mostTaken());
@@ -151,14 +146,11 @@ public final class StepMachines {
         if (states < FEWEST_STATES || states > MOST_STATES) {
             throw new IllegalArgumentException("4 to 64 states can be kept");
         }
-        mostStates = states;
-        if (this.states != null) {
-            this.states.allow(states);
-        }
+        this.states.allow(states);
     }
 
     public boolean isOneWay() {
-        return readyTable().isSingleMinded();
+        return table.isSingleMinded();
     }
 
     public int over() {
@@ -174,38 +166,13 @@ public final class StepMachines {
     }
 
     private void forgetWhatWasMade() {
-        if (table != null) {
-            table.forget();
-        }
-        if (states != null) {
-            states.forget();
-        }
+        table.forget();
+        states.forget();
     }
 
     /** A table goes from one place alone, and holds one-way programs alone: threads do what it can't. */
     private boolean canTable(int how) {
-        return how != ANYWHERE && readyTable().isSingleMinded();
-    }
-
-    private Threads readyThreads() {
-        if (threads == null) {
-            threads = new Threads(program, subject, tally, latest);
-        }
-        return threads;
-    }
-
-    private Marks readyMarks() {
-        if (marks == null) {
-            marks = new Marks(program, subject, tally, latest);
-        }
-        return marks;
-    }
-
-    private Table readyTable() {
-        if (table == null) {
-            table = new Table(program, subject, tally, latest);
-        }
-        return table;
+        return how != ANYWHERE && table.isSingleMinded();
     }
 
     /** The steps. What is stored was looked at before: every next step is a step of the program. */
@@ -357,11 +324,19 @@ public final class StepMachines {
      * before a SAVE, when all that is behind the SAVE has been tried.
      */
     private static final class Jobs {
-        private int[] jobs;
+        /** A job takes 16 bits, and four of them one element: there may be as many as pairs of step and place. */
+        private static final int EACH = 4;
+        private static final int BITS = 16;
+        private static final long ONE_JOB = (1L << BITS) - 1;
+
+        /** Jobs from here on put back: no step at a place has so high a number. */
+        private static final int PUT_BACKS = (MOST_BYTES + 1) * BYTE_VALUES;
+
+        private final long[] fours;
         private int count = 0;
 
         Jobs(int room) {
-            jobs = new int[room < 0 ? 0 : room];
+            fours = new long[room < 0 ? 0 : room / EACH + 1];
         }
 
         static int stepAt(int step, int place) {
@@ -378,17 +353,17 @@ public final class StepMachines {
 
         /** What a PLACE held is NONE or a place, so that one more than it fits into a byte. */
         static int putBackOf(int k, int held) {
-            return -1 - (k * BYTE_VALUES + held + 1);
+            return PUT_BACKS + k * BYTE_VALUES + held + 1;
         }
 
         static boolean isPutBack(int job) {
-            return job < 0;
+            return job >= PUT_BACKS;
         }
 
         static void putBack(int job, int[] places) {
-            int k = (-1 - job) / BYTE_VALUES;
+            int k = (job - PUT_BACKS) / BYTE_VALUES;
             if (k >= 0 && k < places.length) {
-                places[k] = (-1 - job) % BYTE_VALUES - 1;
+                places[k] = (job - PUT_BACKS) % BYTE_VALUES - 1;
             }
         }
 
@@ -396,21 +371,15 @@ public final class StepMachines {
             count = 0;
         }
 
-        /** At least twice the room there was, so that growth by little and little stays cheap. */
-        void makeRoom(int room) {
-            if (jobs.length < room) {
-                jobs = new int[Math.max(room, 2 * jobs.length)];
-                count = 0;
-            }
-        }
-
         boolean isEmpty() {
             return count == 0;
         }
 
         void add(int job) {
-            if (count < jobs.length) {
-                jobs[count] = job;
+            int at = count / EACH;
+            if (at < fours.length) {
+                int shift = count % EACH * BITS;
+                fours[at] = fours[at] & ~(ONE_JOB << shift) | (long) job << shift;
                 count++;
             }
         }
@@ -420,7 +389,7 @@ public final class StepMachines {
                 return END;
             }
             count--;
-            return jobs[count];
+            return (int) (fours[count / EACH] >>> (count % EACH * BITS) & ONE_JOB);
         }
     }
 
@@ -550,13 +519,17 @@ public final class StepMachines {
      * there again: all that is behind it has failed, or is shorter or later in order than what was found.
      */
     private static final class Marks {
+        /** Pairs of a step and a place; each may leave one job behind. */
+        private static final int MOST_PAIRS = MOST_STEPS * (MOST_BYTES + 1);
+        private static final int WORD_BITS = 32;
+
         private final Program program;
         private final Subject subject;
         private final Tally tally;
         private final int[] best;
         private final int[] now = new int[PLACES];
-        private final Jobs jobs = new Jobs(0);
-        private int[] tried = new int[0];
+        private final Jobs jobs = new Jobs(MOST_PAIRS + 2);
+        private final int[] tried = new int[MOST_PAIRS / WORD_BITS + 1];
 
         Marks(Program program, Subject subject, Tally tally, int[] best) {
             this.program = program;
@@ -574,14 +547,12 @@ public final class StepMachines {
             }
         }
 
+        /** Only what this program and this subject can mark: a small program is not to pay for the largest. */
         private void wipe() {
-            int pairs = program.size * (subject.length + 1);
-            jobs.makeRoom(pairs + 2);
-            int words = pairs / 32 + 1;
-            if (tried.length < words) {
-                tried = new int[Math.max(words, 2 * tried.length)];
+            int words = program.size * (subject.length + 1) / WORD_BITS + 1;
+            for (int word = 0; word < words && word < tried.length; word++) {
+                tried[word] = 0;
             }
-            Arrays.fill(tried, 0);
         }
 
         private void tryFrom(int first, int how, boolean longest) {
@@ -604,8 +575,8 @@ public final class StepMachines {
 
         private boolean isNew(int step, int place) {
             int pair = place * program.size + step;
-            int word = pair / 32;
-            int bit = 1 << (pair % 32);
+            int word = pair / WORD_BITS;
+            int bit = 1 << (pair % WORD_BITS);
             if (word < 0 || word >= tried.length || (tried[word] & bit) != 0) {
                 return false;
             }
@@ -832,6 +803,40 @@ public final class StepMachines {
         }
     }
 
+    /** Numbers 0 .. 255, eight to an element: what an object takes is counted by elements. */
+    private static final class Packed {
+        static final int EACH = 8;
+        private static final int BITS = 8;
+        private static final long ONE_NUMBER = 255;
+
+        private final long[] eights;
+
+        Packed(int room) {
+            eights = new long[room < 0 ? 0 : room / EACH + 1];
+        }
+
+        int get(int i) {
+            int at = i / EACH;
+            return i < 0 || at >= eights.length ? 0 : (int) (eights[at] >>> (i % EACH * BITS) & ONE_NUMBER);
+        }
+
+        void set(int i, int number) {
+            int at = i / EACH;
+            if (i >= 0 && at < eights.length) {
+                int shift = i % EACH * BITS;
+                eights[at] = eights[at] & ~(ONE_NUMBER << shift) | (number & ONE_NUMBER) << shift;
+            }
+        }
+
+        /** Whole elements alone: both from and room are to be multiples of EACH. */
+        void wipe(int from, int room) {
+            int last = (from + room) / EACH;
+            for (int at = from / EACH; at >= 0 && at < last && at < eights.length; at++) {
+                eights[at] = 0;
+            }
+        }
+    }
+
     /**
      * The states that are kept, and their moves that are known. A state is a row of steps in order, not yet
      * followed, and a label: what they are followed for, and what byte is before.
@@ -839,37 +844,22 @@ public final class StepMachines {
     private static final class Kept {
         /** All bytes, and none. */
         static final int SYMBOLS = BYTE_VALUES + 1;
-        static final int UNKNOWN = -1;
+        static final int UNKNOWN = 0;
 
-        private int[] steps;
-        private int[] counts;
-        private int[] labels;
-        private int[] sums;
-        private int[] moves;
-        private int most = 0;
+        /** Somewhat more than SYMBOLS, so that the moves of each state can be wiped by themselves. */
+        private static final int MOVES_ROOM = (SYMBOLS / Packed.EACH + 1) * Packed.EACH;
+
+        private final Packed steps = new Packed(MOST_STATES * MOST_STEPS);
+        private final Packed moves = new Packed(MOST_STATES * MOVES_ROOM);
+        private final int[] counts = new int[MOST_STATES];
+        private final int[] labels = new int[MOST_STATES];
+        private final int[] sums = new int[MOST_STATES];
+        private int most = STATES_AT_FIRST;
         private int kept = 0;
 
-        Kept(int states) {
-            most = states;
-            makeRoom(states);
-        }
-
-        /** New rows only for more states than there is room for: keep() may come often. */
         void allow(int states) {
             forget();
-            most = states;
-            if (counts.length < states) {
-                makeRoom(states);
-            }
-        }
-
-        private void makeRoom(int states) {
-            int room = Math.max(states, FEWEST_STATES);
-            steps = new int[room * MOST_STEPS];
-            counts = new int[room];
-            labels = new int[room];
-            sums = new int[room];
-            moves = new int[room * SYMBOLS];
+            most = Math.max(FEWEST_STATES, Math.min(states, MOST_STATES));
         }
 
         void forget() {
@@ -889,15 +879,15 @@ public final class StepMachines {
         }
 
         int stepOf(int state, int i) {
-            return steps[state * MOST_STEPS + i];
+            return steps.get(state * MOST_STEPS + i);
         }
 
         int moveOf(int state, int symbol) {
-            return moves[state * SYMBOLS + symbol];
+            return moves.get(state * MOVES_ROOM + symbol);
         }
 
         void know(int state, int symbol, int move) {
-            moves[state * SYMBOLS + symbol] = move;
+            moves.set(state * MOVES_ROOM + symbol, move);
         }
 
         /** The number of a state. If it is new and there is no room, all that were kept are forgotten. */
@@ -939,10 +929,10 @@ public final class StepMachines {
             counts[kept] = row.count;
             labels[kept] = label;
             sums[kept] = sum;
-            System.arraycopy(row.steps, 0, steps, kept * MOST_STEPS, row.count);
-            for (int symbol = 0; symbol < SYMBOLS; symbol++) {
-                know(kept, symbol, UNKNOWN);
+            for (int i = 0; i < row.count; i++) {
+                steps.set(kept * MOST_STEPS + i, row.steps[i]);
             }
+            moves.wipe(kept * MOVES_ROOM, MOVES_ROOM);
             kept++;
         }
     }
@@ -950,7 +940,8 @@ public final class StepMachines {
     /**
      * States: what all ways together may still do, as one thing with a number. What is behind a place is known
      * only with the next byte, so that a move first follows the state's steps up to BYTES, then goes over.
-     * A move is one more than the next state, times two, and one if the END was come to ahead of the byte.
+     * A move is two more than the next state, times two, and one if the END was come to ahead of the byte: it
+     * is never what says that a move is not known.
      */
     private static final class States {
         /** Goals. To find is to take the first END from the first beginning; once found, it is to take. */
@@ -967,17 +958,16 @@ public final class StepMachines {
         private final Program program;
         private final Subject subject;
         private final Tally tally;
-        private final Kept kept;
+        private final Kept kept = new Kept();
         private final Row walked = new Row();
         private final Row onward = new Row();
         private final Jobs jobs = new Jobs(2 * MOST_STEPS + 2);
         private int so = 0;
 
-        States(Program program, Subject subject, Tally tally, int most) {
+        States(Program program, Subject subject, Tally tally) {
             this.program = program;
             this.subject = subject;
             this.tally = tally;
-            this.kept = new Kept(most);
         }
 
         void allow(int states) {
@@ -997,7 +987,7 @@ public final class StepMachines {
                 if (move % 2 != 0) {
                     end = place;
                 }
-                state = move / 2 - 1;
+                state = move / 2 - 2;
             }
             return end;
         }
@@ -1045,7 +1035,7 @@ public final class StepMachines {
             if (symbol != NO_BYTE && (onward.count > 0 || goalThen == FIND)) {
                 next = kept.numberOf(onward, labelOf(goalThen, symbol));
             }
-            int move = (next + 1) * 2 + (ended ? 1 : 0);
+            int move = (next + 2) * 2 + (ended ? 1 : 0);
             if (kept.count() >= keptBefore) {
                 kept.know(state, symbol, move);
             }

@@ -20,6 +20,7 @@ public final class LargeTest {
             askAll("round " + round, x);
         }
         nestedLoops();
+        deepestWay();
         room();
         checks.done("LargeTest");
     }
@@ -89,6 +90,23 @@ public final class LargeTest {
         x.step(2, 2, 0, 1, 0);
         askAll("nested loops with an END", x);
         checks.same("nested loops with an END", x.match(0, false, 2, 0), 200);
+    }
+
+    /** One way through nearly every step at every place, and at each of them a second one that waits all the while. */
+    private static void deepestWay() {
+        StepMachines x = new StepMachines();
+        x.lay(200);
+        for (int k = 3; k < 200; k++) {
+            x.step(k, 2, 0, k - 1, 199);
+        }
+        x.step(2, 2, 0, 1, 0);
+        x.step(1, 1, 'a' * 256 + 'a', 199, 0);
+        x.begin(199);
+        for (int i = 0; i < 25; i++) {
+            x.put(0x6161616161616161L, 8);
+        }
+        askAll("the deepest way", x);
+        checks.same("the deepest way by marks", x.match(2, false, 1, 0), 200);
     }
 
     /** Programs and subjects that grow between dear calls, and new objects between them. */
