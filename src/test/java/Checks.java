@@ -2,13 +2,23 @@
 final class Checks {
     private int wrong = 0;
     private int made = 0;
+    private String about = "";
+
+    /** Said ahead of all wrong answers from now on. */
+    void about(String what) {
+        about = what + ": ";
+    }
+
+    int made() {
+        return made;
+    }
 
     void same(String what, long got, long due) {
         made++;
         if (got != due) {
             wrong++;
             if (wrong <= 50) {
-                System.out.println(what + " answered " + got + ", due is " + due);
+                System.out.println(about + what + " answered " + got + ", due is " + due);
             }
         }
     }
@@ -25,6 +35,10 @@ final class Checks {
         refuses(what, call, IllegalArgumentException.class);
     }
 
+    void taken(String what, Runnable call) {
+        refuses(what, call, null);
+    }
+
     /** The very class: what the Java machine throws by itself is of a class below these. */
     private void refuses(String what, Runnable call, Class<?> due) {
         Class<?> got = null;
@@ -36,7 +50,7 @@ final class Checks {
         made++;
         if (got != due) {
             wrong++;
-            System.out.println(what + " threw " + got + ", due is " + due);
+            System.out.println(about + what + " threw " + got + ", due is " + due);
         }
     }
 

@@ -12,6 +12,13 @@ public final class FaceTest {
             "void lay(int)", "void step(int,int,int,int,int)", "void begin(int)", "boolean put(long,int)",
             "void clear()", "int match(int,boolean,int,int)", "int saved(int)", "int ends(int,boolean,int)",
             "void keep(int)", "boolean isOneWay()", "int over()"));
+    private static final Set<String> THROWN = new TreeSet<>(Arrays.asList(
+            "lay [class java.lang.IllegalArgumentException]",
+            "step [class java.lang.IndexOutOfBoundsException, class java.lang.IllegalArgumentException]",
+            "begin [class java.lang.IndexOutOfBoundsException]", "put []", "clear []",
+            "match [class java.lang.IllegalArgumentException]", "saved []",
+            "ends [class java.lang.IllegalArgumentException]", "keep [class java.lang.IllegalArgumentException]",
+            "isOneWay []", "over []"));
 
     public static void main(String[] args) {
         Checks checks = new Checks();
@@ -19,6 +26,7 @@ public final class FaceTest {
         checks.same("the class is public and final", face.getModifiers(), Modifier.PUBLIC | Modifier.FINAL);
         Set<String> seen = new TreeSet<>();
         Set<String> names = new TreeSet<>();
+        Set<String> thrown = new TreeSet<>();
         for (Method method : face.getDeclaredMethods()) {
             if (Modifier.isPrivate(method.getModifiers())) {
                 continue;
@@ -28,8 +36,10 @@ public final class FaceTest {
                     + String.join(",", Arrays.stream(method.getParameterTypes()).map(Class::getName)
                             .toArray(String[]::new)) + ")");
             names.add(method.getName());
+            thrown.add(method.getName() + " " + Arrays.toString(method.getExceptionTypes()));
         }
         checks.same("the methods " + seen, seen.equals(METHODS), true);
+        checks.same("what they throw " + thrown, thrown.equals(THROWN), true);
         privateNames(checks, face, names);
         for (Class<?> inside : face.getDeclaredClasses()) {
             checks.same(inside + " is static", Modifier.isStatic(inside.getModifiers()), true);

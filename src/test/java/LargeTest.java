@@ -1,4 +1,5 @@
 import java.lang.management.ManagementFactory;
+import java.util.Arrays;
 import java.util.Random;
 
 /** Programs of 200 steps over 200 bytes: the machines agree, none takes too many steps, and the room suffices. */
@@ -11,13 +12,13 @@ public final class LargeTest {
 
     public static void main(String[] args) {
         for (int round = 0; round < 60; round++) {
-            StepMachines x = new StepMachines();
-            x.lay(200);
-            throwTogether(x, round);
-            for (int i = 0; i < 25; i++) {
-                x.put(0x6161616161616161L + (round % 2 == 0 ? 0 : random.nextInt(2) << 8 * random.nextInt(3)), 8);
+            Renewed program = new Renewed();
+            throwTogether(program, round);
+            program.plain.subject = as();
+            for (int i = 0; round % 2 != 0 && i < 25; i++) {
+                program.plain.subject[random.nextInt(200)] = 'b';
             }
-            askAll("round " + round, x);
+            askAll("round " + round, program);
         }
         nestedLoops();
         deepestWay();
@@ -25,14 +26,21 @@ public final class LargeTest {
         checks.done("LargeTest");
     }
 
-    private static void throwTogether(StepMachines x, int round) {
+    private static int[] as() {
+        int[] subject = new int[200];
+        Arrays.fill(subject, 'a');
+        return subject;
+    }
+
+    private static void throwTogether(Renewed program, int round) {
+        program.plain.size = 200;
         for (int k = 1; k < 200; k++) {
             int pick = random.nextInt(20);
             int kind = pick < 6 + round % 5 ? 1 : pick < 15 ? 2 : pick < 18 ? 3 : pick < 19 ? 4 : 5;
             int value = kind == 1 ? 'a' * 256 + 'a' + random.nextInt(2) : kind == 3 ? 2 + random.nextInt(18) : 5;
-            x.step(k, kind, value, step(k, round), step(k, round));
+            program.write(k, kind, value, step(k, round), step(k, round));
         }
-        x.begin(199);
+        program.plain.beginning = 199;
     }
 
     /** The END is seldom a next step, so that ways are long. */
@@ -43,19 +51,19 @@ public final class LargeTest {
         return round % 3 == 0 ? 1 + random.nextInt(199) : Math.max(1, k - random.nextInt(5));
     }
 
-    private static void askAll(String where, StepMachines x) {
+    private static void askAll(String where, Renewed program) {
         for (int how = 0; how < 3; how++) {
             for (int from = 0; from <= 200; from += 67) {
                 for (int l = 0; l < 2; l++) {
-                    ask(where, x, how, l == 1, from);
+                    ask(where, program, how, l == 1, from);
                 }
             }
         }
-        checks.same(where + " over()", x.over(), 0);
     }
 
-    private static void ask(String where, StepMachines x, int how, boolean longest, int from) {
+    private static void ask(String where, Renewed program, int how, boolean longest, int from) {
         String call = where + " (" + how + ", " + longest + ", " + from + ")";
+        StepMachines x = program.use(3 * 21 + 2);
         int end = x.match(how, longest, 0, from);
         int[] saved = new int[20];
         for (int k = 0; k < 20; k++) {
@@ -69,44 +77,43 @@ public final class LargeTest {
         }
         if (how != 0 || !longest) {
             checks.same(call + " ends", x.ends(how, longest, from), end);
-            x.keep(4 + random.nextInt(61));
+        }
+        checks.same(call + " over()", x.over(), 0);
+        if (random.nextInt(3) == 0) {
+            program.keep(4 + random.nextInt(61));
         }
     }
 
     /** ((((a*)*)*)*)* with no END behind it: ways without number, but few steps. */
     private static void nestedLoops() {
-        StepMachines x = new StepMachines();
-        x.lay(200);
+        Renewed program = new Renewed();
+        program.plain.size = 200;
         for (int k = 2; k < 200; k++) {
-            x.step(k, 2, 0, k - 1, k == 199 ? 2 : k + 1);
+            program.write(k, 2, 0, k - 1, k == 199 ? 2 : k + 1);
         }
-        x.step(1, 1, 'a' * 256 + 'a', 199, 0);
-        x.begin(199);
-        for (int i = 0; i < 25; i++) {
-            x.put(0x6161616161616161L, 8);
-        }
-        askAll("nested loops", x);
-        checks.same("nested loops have no END", x.match(0, true, 1, 0), -1);
-        x.step(2, 2, 0, 1, 0);
-        askAll("nested loops with an END", x);
-        checks.same("nested loops with an END", x.match(0, false, 2, 0), 200);
+        program.write(1, 1, 'a' * 256 + 'a', 199, 0);
+        program.plain.beginning = 199;
+        program.plain.subject = as();
+        askAll("nested loops", program);
+        checks.same("nested loops have no END", program.use(1).match(0, true, 1, 0), -1);
+        program.change(2, 2, 0, 1, 0);
+        askAll("nested loops with an END", program);
+        checks.same("nested loops with an END", program.use(1).match(0, false, 2, 0), 200);
     }
 
     /** One way through nearly every step at every place, and at each of them a second one that waits all the while. */
     private static void deepestWay() {
-        StepMachines x = new StepMachines();
-        x.lay(200);
+        Renewed program = new Renewed();
+        program.plain.size = 200;
         for (int k = 3; k < 200; k++) {
-            x.step(k, 2, 0, k - 1, 199);
+            program.write(k, 2, 0, k - 1, 199);
         }
-        x.step(2, 2, 0, 1, 0);
-        x.step(1, 1, 'a' * 256 + 'a', 199, 0);
-        x.begin(199);
-        for (int i = 0; i < 25; i++) {
-            x.put(0x6161616161616161L, 8);
-        }
-        askAll("the deepest way", x);
-        checks.same("the deepest way by marks", x.match(2, false, 1, 0), 200);
+        program.write(2, 2, 0, 1, 0);
+        program.write(1, 1, 'a' * 256 + 'a', 199, 0);
+        program.plain.beginning = 199;
+        program.plain.subject = as();
+        askAll("the deepest way", program);
+        checks.same("the deepest way by marks", program.use(1).match(2, false, 1, 0), 200);
     }
 
     /** Programs and subjects that grow between dear calls, and new objects between them. */

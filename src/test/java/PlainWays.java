@@ -66,6 +66,15 @@ final class PlainWays {
         here[step] = false;
     }
 
+    boolean saves(int place) {
+        for (int k = 1; k < size; k++) {
+            if (kinds[k] == 3 && values[k] == place) {
+                return true;
+            }
+        }
+        return false;
+    }
+
     boolean isSo(int what, int place) {
         int before = place == 0 ? -1 : subject[place - 1];
         int behind = place == subject.length ? -1 : subject[place];

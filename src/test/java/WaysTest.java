@@ -1,4 +1,5 @@
 import java.util.Random;
+import java.util.stream.IntStream;
 
 /** Many small programs, grown like patterns or thrown together, against all their ways taken one by one. */
 public final class WaysTest {
@@ -10,8 +11,8 @@ public final class WaysTest {
     private static int found = 0;
     private static int skipped = 0;
 
+    private static Renewed renewed;
     private static PlainWays plain;
-    private static StepMachines machines;
 
     public static void main(String[] args) {
         int rounds = args.length > 0 ? Integer.parseInt(args[0]) : 6000;
@@ -26,27 +27,27 @@ public final class WaysTest {
     }
 
     private static void oneProgram(int round) {
-        plain = new PlainWays();
-        machines = new StepMachines();
+        renewed = new Renewed();
+        plain = renewed.plain;
         plain.size = 2 + random.nextInt(14);
-        machines.lay(plain.size);
         if (round % 3 == 0) {
             thrown();
         } else {
             grown(round % 3 == 1);
         }
-        machines.begin(plain.beginning);
         if (random.nextInt(3) == 0) {
-            machines.keep(4 + random.nextInt(random.nextBoolean() ? 2 : 61));
+            renewed.keep(4 + random.nextInt(random.nextBoolean() ? 2 : 61));
         }
         for (int i = 0; i < 2; i++) {
             newSubject();
             askAll("round " + round + " subject " + i);
             if (random.nextInt(3) == 0 && plain.size > 1) {
-                lay(1 + random.nextInt(plain.size - 1), 1 + random.nextInt(5), anyStep(), anyStep());
+                int k = 1 + random.nextInt(plain.size - 1);
+                int kind = 1 + random.nextInt(5);
+                renewed.change(k, kind, valueOf(kind), anyStep(), anyStep());
             }
         }
-        checks.same("round " + round + " over()", machines.over(), 0);
+        checks.same("round " + round + " over()", renewed.use(1).over(), 0);
     }
 
     private static int anyStep() {
@@ -54,21 +55,23 @@ public final class WaysTest {
     }
 
     private static void lay(int k, int kind, int first, int second) {
-        int value = 0;
-        if (kind == 1) {
-            int a = LETTERS.charAt(random.nextInt(LETTERS.length()));
-            int b = random.nextBoolean() ? a : LETTERS.charAt(random.nextInt(LETTERS.length()));
-            value = Math.min(a, b) * 256 + Math.max(a, b);
-        } else if (kind == 3) {
-            value = 2 + random.nextInt(random.nextBoolean() ? 3 : 18);
-        } else if (kind == 4) {
-            value = random.nextInt(6);
+        renewed.write(k, kind, valueOf(kind), first, second);
+    }
+
+    private static int valueOf(int kind) {
+        switch (kind) {
+            case 1: {
+                int a = LETTERS.charAt(random.nextInt(LETTERS.length()));
+                int b = random.nextBoolean() ? a : LETTERS.charAt(random.nextInt(LETTERS.length()));
+                return Math.min(a, b) * 256 + Math.max(a, b);
+            }
+            case 3:
+                return 2 + random.nextInt(random.nextBoolean() ? 3 : 18);
+            case 4:
+                return random.nextInt(6);
+            default:
+                return 0;
         }
-        plain.kinds[k] = kind;
-        plain.values[k] = value;
-        plain.firsts[k] = first;
-        plain.seconds[k] = second;
-        machines.step(k, kind, value, first, second);
     }
 
     private static void thrown() {
@@ -96,12 +99,11 @@ public final class WaysTest {
     }
 
     private static void newSubject() {
-        machines.clear();
-        plain.subject = new int[random.nextInt(9)];
-        for (int i = 0; i < plain.subject.length; i++) {
-            plain.subject[i] = LETTERS.charAt(random.nextInt(random.nextBoolean() ? 2 : LETTERS.length()));
-            machines.put(plain.subject[i], 1);
+        int[] subject = new int[random.nextInt(9)];
+        for (int i = 0; i < subject.length; i++) {
+            subject[i] = LETTERS.charAt(random.nextInt(random.nextBoolean() ? 2 : LETTERS.length()));
         }
+        renewed.subject(subject);
     }
 
     private static void askAll(String where) {
@@ -113,7 +115,7 @@ public final class WaysTest {
         }
         boolean late = random.nextBoolean();
         if (late) {
-            checks.same(where + " isOneWay()", machines.isOneWay(), one);
+            checks.same(where + " isOneWay()", renewed.use(1).isOneWay(), one);
         }
         for (int from = 0; from <= plain.subject.length; from++) {
             for (int how = 0; how < 3; how++) {
@@ -121,7 +123,7 @@ public final class WaysTest {
                 ask(where, how, true, from);
             }
         }
-        checks.same(where + " isOneWay()", machines.isOneWay(), one);
+        checks.same(where + " isOneWay()", renewed.use(1).isOneWay(), one);
     }
 
     private static void ask(String where, int how, boolean longest, int from) {
@@ -135,15 +137,22 @@ public final class WaysTest {
         if (due != null) {
             found++;
         }
+        int[] places = placesToLookAt();
+        StepMachines x = renewed.use(3 * (1 + places.length) + 1);
         for (int machine = 0; machine < 3; machine++) {
-            checks.same(where + " match by " + machine + call, machines.match(how, longest, machine, from), end);
-            for (int k = 0; k < 20; k++) {
-                checks.same(where + " saved(" + k + ") by " + machine + call, machines.saved(k),
-                        due == null ? -1 : due[k]);
+            checks.same(where + " match by " + machine + call, x.match(how, longest, machine, from), end);
+            for (int k : places) {
+                checks.same(where + " saved(" + k + ") by " + machine + call, x.saved(k), due == null ? -1 : due[k]);
             }
         }
         if (how != 0 || !longest) {
-            checks.same(where + " ends" + call, machines.ends(how, longest, from), end);
+            checks.same(where + " ends" + call, x.ends(how, longest, from), end);
         }
+    }
+
+    /** Where it begins and ends, what the program may save, and one PLACE more. */
+    private static int[] placesToLookAt() {
+        int extra = random.nextInt(20);
+        return IntStream.range(0, 20).filter(k -> k < 2 || k == extra || plain.saves(k)).toArray();
     }
 }

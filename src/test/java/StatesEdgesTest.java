@@ -1,0 +1,237 @@
+/** The boundary cases that promises 9 and 10 name: ends and keep. */
+public final class StatesEdgesTest {
+    private static final Sentences sentences = new Sentences();
+    private static final Checks checks = sentences.checks;
+    private static final Asked asked = new Asked(checks);
+
+    public static void main(String[] args) {
+        ends();
+        keep();
+        sentences.done("StatesEdgesTest");
+    }
+
+    private static void ends() {
+        sentences.test("Promise 9", "Where match() would end (an empty subject)", StatesEdgesTest::ofAnEmptySubject);
+        sentences.test("Promise 9", "Where match() would end (a full subject)", StatesEdgesTest::ofAFullSubject);
+        sentences.test("Promise 9", "Where match() would end (NONE)", StatesEdgesTest::whereThereIsNone);
+        sentences.test("Promise 9", "Where match() would end (what was changed since)",
+                StatesEdgesTest::ofWhatWasChanged);
+        sentences.test("Promise 9", "by states (the byte before the place)", StatesEdgesTest::theByteBefore);
+        sentences.test("Promise 9", "IllegalArgumentException: as for match() (no such how)",
+                StatesEdgesTest::noSuchHow);
+        sentences.test("Promise 9", "IllegalArgumentException: as for match() (no such place)",
+                StatesEdgesTest::noSuchPlace);
+        sentences.test("Promise 9", "longest with how 0", StatesEdgesTest::longestWithHow0);
+        sentences.test("Promise 9", "IllegalArgumentException: .. (nothing is changed)",
+                StatesEdgesTest::aRefusedEndsChangesNothing);
+    }
+
+    private static void four(String what, StepMachines x, int from, int first, int here, int longest, int whole) {
+        checks.same(what + ": ends(0, false, " + from + ")", x.ends(0, false, from), first);
+        checks.same(what + ": ends(1, false, " + from + ")", x.ends(1, false, from), here);
+        checks.same(what + ": ends(1, true, " + from + ")", x.ends(1, true, from), longest);
+        checks.same(what + ": ends(2, false, " + from + ")", x.ends(2, false, from), whole);
+        checks.same(what + ": ends(2, true, " + from + ")", x.ends(2, true, from), whole);
+    }
+
+    private static void ofAnEmptySubject() {
+        four("the END alone", new StepMachines(), 0, 0, 0, 0, 0);
+        four("one a or more", Laid.many('a'), 0, -1, -1, -1, -1);
+        four("none before and none behind", Laid.program(1, Laid.so(0, 2), Laid.so(1, 0)), 0, 0, 0, 0, 0);
+        four("a WORD byte on one side", Laid.program(1, Laid.so(4, 0)), 0, -1, -1, -1, -1);
+    }
+
+    private static void ofAFullSubject() {
+        StepMachines x = Laid.program(1, Laid.bytes('a', 2), Laid.either(0, 1));
+        Laid.fill(x, 'a', 200);
+        four("from 0", x, 0, 1, 1, 200, 200);
+        four("from 199", x, 199, 200, 200, 200, 200);
+        four("from 200", x, 200, -1, -1, -1, -1);
+        x.step(2, Laid.EITHER, 0, 1, 0);
+        four("the most first, from 0", x, 0, 200, 200, 200, 200);
+        x.lay(1);
+        four("the END alone, from 0", x, 0, 0, 0, 0, -1);
+        four("the END alone, from 200", x, 200, 200, 200, 200, 200);
+        checks.same("over()", x.over(), 0);
+    }
+
+    private static void whereThereIsNone() {
+        StepMachines x = Laid.with(Laid.many('a'), "bab");
+        four("not here, but behind", x, 0, 2, -1, -1, -1);
+        four("not to the subject's end", x, 1, 2, 2, 2, -1);
+        four("not any more", x, 2, -1, -1, -1, -1);
+        x.lay(200);
+        x.begin(199);
+        four("NEVER", x, 0, -1, -1, -1, -1);
+    }
+
+    private static void ofWhatWasChanged() {
+        StepMachines x = Laid.with(Laid.many('a'), "aab");
+        four("one a or more", x, 0, 2, 2, 2, -1);
+        x.step(1, Laid.BYTES, Laid.range('a', 'b'), 2, 0);
+        four("a step is another", x, 0, 3, 3, 3, 3);
+        x.begin(2);
+        four("the beginning is another", x, 3, 3, 3, 3, 3);
+        x.put('a', 1);
+        four("the subject is longer", x, 3, 4, 4, 4, 4);
+        x.clear();
+        four("the subject is empty", x, 0, 0, 0, 0, 0);
+        Laid.lay(x, 1, Laid.bytes('a', 0));
+        four("the program is another", x, 0, -1, -1, -1, -1);
+    }
+
+    /** A state from one byte before is not taken for another: all sorts of bytes, one behind the other. */
+    private static void theByteBefore() {
+        for (int what = 0; what < 6; what++) {
+            StepMachines x = Laid.program(1, Laid.so(what, 0));
+            Laid.put(x, "\n\na a_ \n");
+            for (int from = 0; from <= 8; from++) {
+                int due = x.match(1, false, 1, from);
+                checks.same("assertion " + what + " at " + from, x.ends(1, false, from), due);
+                checks.same("assertion " + what + " at " + from + ", longest", x.ends(1, true, from), due);
+                checks.same("assertion " + what + " from " + from + " on", x.ends(0, false, from),
+                        x.match(0, false, 1, from));
+            }
+        }
+    }
+
+    private static void noSuchHow() {
+        StepMachines x = Laid.with(Laid.many('a'), "a");
+        for (int how : new int[] {0, 1, 2}) {
+            checks.taken("how " + how, () -> x.ends(how, false, 0));
+        }
+        for (int how : new int[] {-1, 3, 4, 256, 65536, Laid.MAX, Laid.MIN}) {
+            checks.argument("how " + how, () -> x.ends(how, false, 0));
+            checks.argument("how " + how + ", longest", () -> x.ends(how, true, 0));
+        }
+    }
+
+    private static void noSuchPlace() {
+        StepMachines x = new StepMachines();
+        for (int length : new int[] {0, 1, 8, 199, 200}) {
+            x.clear();
+            Laid.fill(x, 'a', length);
+            for (int how = 0; how < 3; how++) {
+                int h = how;
+                checks.taken("place 0 of " + length, () -> x.ends(h, h > 0, 0));
+                checks.taken("place " + length, () -> x.ends(h, false, length));
+                for (int from : new int[] {-1, length + 1, 201, 256, 65536, Laid.MAX, Laid.MIN}) {
+                    checks.argument("place " + from + " of " + length, () -> x.ends(h, false, from));
+                    checks.argument("place " + from + " of " + length, () -> x.ends(h, true, from));
+                }
+            }
+        }
+    }
+
+    private static void longestWithHow0() {
+        StepMachines x = Laid.with(Laid.many('a'), "baa");
+        for (int from = 0; from <= 3; from++) {
+            int f = from;
+            checks.argument("from " + from, () -> x.ends(0, true, f));
+            checks.taken("not longest, from " + from, () -> x.ends(0, false, f));
+            checks.taken("how 1, from " + from, () -> x.ends(1, true, f));
+            checks.taken("how 2, from " + from, () -> x.ends(2, true, f));
+        }
+        checks.same("match() is not refused so", x.match(0, true, 0, 0), 3);
+        checks.argument("an empty subject", () -> new StepMachines().ends(0, true, 0));
+    }
+
+    private static void aRefusedEndsChangesNothing() {
+        StepMachines x = Laid.with(Laid.many('a'), "baa");
+        checks.same("match()", x.match(0, false, 0, 0), 3);
+        int[][] refused = {{3, 0}, {-1, 0}, {0, 4}, {1, -1}, {2, Laid.MAX}, {Laid.MIN, Laid.MIN}};
+        for (int[] r : refused) {
+            checks.argument("ends(" + r[0] + ", .., " + r[1] + ")", () -> x.ends(r[0], false, r[1]));
+            checks.argument("ends(0, true, 1)", () -> x.ends(0, true, 1));
+            checks.same("saved(0)", x.saved(0), 1);
+            checks.same("saved(1)", x.saved(1), 3);
+            four("behind ends(" + r[0] + ", .., " + r[1] + ")", x, 1, 3, 3, 3, 3);
+        }
+        checks.same("over()", x.over(), 0);
+    }
+
+    private static void keep() {
+        sentences.test("Promise 10", "At most so many states are kept (4 .. 64", StatesEdgesTest::fourToSixtyFour);
+        sentences.test("Promise 10", "at first 32", StatesEdgesTest::atFirst32);
+        sentences.test("Promise 10", "nothing that is told hangs on it", StatesEdgesTest::nothingHangsOnIt);
+        sentences.test("Promise 10", "IllegalArgumentException: another number.", StatesEdgesTest::anotherNumber);
+        sentences.test("Promise 10", "IllegalArgumentException: another number. (nothing is changed)",
+                StatesEdgesTest::aRefusedKeepChangesNothing);
+    }
+
+    /** a, then 5 of a and b, then c, from anywhere: each 6 bytes before may be another state, more than 64. */
+    private static StepMachines manyStates() {
+        StepMachines x = Laid.program(7, Laid.bytes('c', 0), Laid.bytes('a', 'b', 1), Laid.bytes('a', 'b', 2),
+                Laid.bytes('a', 'b', 3), Laid.bytes('a', 'b', 4), Laid.bytes('a', 'b', 5), Laid.bytes('a', 6));
+        long noise = 1;
+        for (int i = 0; i < 190; i++) {
+            noise = noise * 69069 % 4294967291L;
+            x.put(noise % 2 == 0 ? 'a' : 'b', 1);
+        }
+        Laid.put(x, "abbabbcbab");
+        return x;
+    }
+
+    private static void isTold(String what, StepMachines x) {
+        checks.same(what + ": anywhere", x.ends(0, false, 0), 197);
+        checks.same(what + ": anywhere behind it", x.ends(0, false, 191), -1);
+        checks.same(what + ": here", x.ends(1, false, 190), 197);
+        checks.same(what + ": longest", x.ends(1, true, 190), 197);
+        checks.same(what + ": to the subject's end", x.ends(2, false, 190), -1);
+        checks.same(what + ": anywhere once more", x.ends(0, false, 0), 197);
+    }
+
+    private static void fourToSixtyFour() {
+        for (int states = 4; states <= 64; states++) {
+            StepMachines x = manyStates();
+            int s = states;
+            checks.taken("keep(" + states + ")", () -> x.keep(s));
+            isTold("keep(" + states + ")", x);
+        }
+    }
+
+    private static void atFirst32() {
+        StepMachines x = manyStates();
+        isTold("no keep() yet", x);
+        checks.taken("keep(32)", () -> x.keep(32));
+        isTold("keep(32)", x);
+        checks.same("the same by marks", x.match(0, false, 1, 0), 197);
+    }
+
+    private static void nothingHangsOnIt() {
+        StepMachines x = manyStates();
+        checks.same("match()", x.match(0, false, 0, 0), 197);
+        for (int states : new int[] {64, 4, 63, 5, 4, 64, 33, 31}) {
+            x.keep(states);
+            isTold("fewer and more, keep(" + states + ")", x);
+            x.keep(states);
+            isTold("again, keep(" + states + ")", x);
+        }
+        checks.same("saved(0)", x.saved(0), 190);
+        checks.same("saved(1)", x.saved(1), 197);
+        checks.same("over()", x.over(), 0);
+        checks.same("isOneWay()", x.isOneWay(), true);
+    }
+
+    private static void anotherNumber() {
+        StepMachines x = new StepMachines();
+        checks.taken("keep(4)", () -> x.keep(4));
+        checks.taken("keep(64)", () -> x.keep(64));
+        for (int states : new int[] {3, 65, 0, -1, -4, 128, 256 + 4, 65536 + 64, Laid.MAX, Laid.MIN, Laid.MIN + 4}) {
+            checks.argument("keep(" + states + ")", () -> x.keep(states));
+        }
+    }
+
+    private static void aRefusedKeepChangesNothing() {
+        StepMachines x = manyStates();
+        checks.same("match()", x.match(0, false, 2, 0), 197);
+        for (int states : new int[] {3, 65, 0, Laid.MAX, Laid.MIN}) {
+            isTold("ahead of keep(" + states + ")", x);
+            checks.argument("keep(" + states + ")", () -> x.keep(states));
+            isTold("behind keep(" + states + ")", x);
+        }
+        checks.same("saved(1)", x.saved(1), 197);
+        asked.length("the subject", x, 200);
+        asked.steps("the program", x, 8);
+    }
+}
