@@ -18,6 +18,8 @@ public final class OneWayEdgesTest {
     private static void where() {
         sentences.test("Promise 11", "Whether the program is never of two minds (one step, and 200)",
                 OneWayEdgesTest::oneStepAnd200);
+        sentences.test("Promise 11", "Whether the program is never of two minds (one behind the other)",
+                OneWayEdgesTest::oneBehindTheOther);
         sentences.test("Promise 11", "from the beginning", OneWayEdgesTest::fromTheBeginning);
         sentences.test("Promise 11", "from each step that BYTES lead to that can be come to from there",
                 OneWayEdgesTest::fromEachThatBytesLeadTo);
@@ -45,6 +47,30 @@ public final class OneWayEdgesTest {
         is("all 200 steps one behind the other", true, 199, saves);
         saves[0] = Laid.save(2, 199);
         is("and back to the beginning", false, 199, saves);
+    }
+
+    /** What was told of a program has no part in what is told of the next one. */
+    private static void oneBehindTheOther() {
+        StepMachines x = Laid.program(1, Laid.either(2, 3), Laid.either(4, 4), Laid.save(2, 0), Laid.bytes('a', 1));
+        for (int turn = 0; turn < 3; turn++) {
+            checks.same("BYTES twice, much is still to be looked at", x.isOneWay(), false);
+            checks.same("asked again", x.isOneWay(), false);
+            x.step(2, Laid.SAVE, 3, 4, 0);
+            checks.same("a step is another", x.isOneWay(), true);
+            checks.same("asked again", x.isOneWay(), true);
+            x.step(2, Laid.EITHER, 0, 4, 4);
+            checks.same("the step is as before", x.isOneWay(), false);
+            x.begin(3);
+            checks.same("the beginning is another", x.isOneWay(), true);
+            x.begin(4);
+            checks.same("the beginning leads there", x.isOneWay(), false);
+            x.step(4, Laid.BYTES, Laid.one('a'), 4, 0);
+            checks.same("the byte leads elsewhere", x.isOneWay(), true);
+            x.step(4, Laid.BYTES, Laid.one('a'), 1, 0);
+            x.begin(1);
+        }
+        x.lay(1);
+        checks.same("the program is another", x.isOneWay(), true);
     }
 
     private static void fromTheBeginning() {

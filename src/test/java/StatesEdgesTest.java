@@ -17,6 +17,7 @@ public final class StatesEdgesTest {
         sentences.test("Promise 9", "Where match() would end (what was changed since)",
                 StatesEdgesTest::ofWhatWasChanged);
         sentences.test("Promise 9", "by states (the byte before the place)", StatesEdgesTest::theByteBefore);
+        sentences.test("Promise 9", "by states (such as are much alike)", StatesEdgesTest::statesMuchAlike);
         sentences.test("Promise 9", "IllegalArgumentException: as for match() (no such how)",
                 StatesEdgesTest::noSuchHow);
         sentences.test("Promise 9", "IllegalArgumentException: as for match() (no such place)",
@@ -91,6 +92,41 @@ public final class StatesEdgesTest {
                 checks.same("assertion " + what + " at " + from + ", longest", x.ends(1, true, from), due);
                 checks.same("assertion " + what + " from " + from + " on", x.ends(0, false, from),
                         x.match(0, false, 1, from));
+            }
+        }
+    }
+
+    /**
+     * One state has 31 more for one of its steps and one less for what is ahead of it, another step or the sort of
+     * the byte before: a sum over them that multiplies by 31 does not tell them apart.
+     */
+    private static void statesMuchAlike() {
+        StepMachines x = new StepMachines();
+        x.lay(100);
+        x.step(1, Laid.EITHER, 0, 2, 3);
+        x.step(2, Laid.BYTES, Laid.one('a'), 60, 0);
+        x.step(3, Laid.BYTES, Laid.one(' '), 29, 0);
+        x.step(60, Laid.BYTES, Laid.one('p'), 0, 0);
+        x.step(29, Laid.BYTES, Laid.one('q'), 0, 0);
+        x.begin(1);
+        alike(x, "ap", 2, " q", 2, " p", -1, "aq", -1);
+        x.step(2, Laid.EITHER, 0, 4, 5);
+        x.step(3, Laid.EITHER, 0, 6, 7);
+        x.step(4, Laid.BYTES, Laid.one('a'), 60, 0);
+        x.step(5, Laid.BYTES, Laid.one('a'), 80, 0);
+        x.step(6, Laid.BYTES, Laid.one('b'), 61, 0);
+        x.step(7, Laid.BYTES, Laid.one('b'), 49, 0);
+        x.step(61, Laid.BYTES, Laid.one('q'), 0, 0);
+        alike(x, "ap", 2, "bq", 2, "bp", -1, "aq", -1);
+    }
+
+    private static void alike(StepMachines x, Object... due) {
+        for (int turn = 0; turn < 2; turn++) {
+            for (int i = 0; i < due.length; i += 2) {
+                x.clear();
+                Laid.put(x, (String) due[i]);
+                four("over " + due[i], x, 0, (Integer) due[i + 1], (Integer) due[i + 1], (Integer) due[i + 1],
+                        (Integer) due[i + 1]);
             }
         }
     }

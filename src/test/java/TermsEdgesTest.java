@@ -47,6 +47,8 @@ public final class TermsEdgesTest {
         for (int k = 2; k < 20; k++) {
             asked.saves("200 steps, no byte", x, 1, true, 0, k, 0);
         }
+        Laid.fill(x, 'a', 200);
+        asked.begins("200 steps at place 200", x, 2, true, 200, 200, 200);
         StepMachines y = Laid.program(199, takes);
         Laid.fill(y, 'a', 198);
         asked.ends("200 steps, a byte too few", y, 0, true, 0, -1);
@@ -164,6 +166,8 @@ public final class TermsEdgesTest {
                 () -> holds(4, "101011", false));
         sentences.test("Terms", "5 not so", () -> holds(5, "010100", true));
         sentences.test("Terms", "WORD bytes: 0 .. 9, A .. Z, a .. z, _", TermsEdgesTest::wordBytes);
+        sentences.test("Terms", "if that is so between the bytes before and behind (on a way over bytes)",
+                TermsEdgesTest::onAWayOverBytes);
     }
 
     /** At each place of "ab", a 10, " c"; and in an empty subject, where none is before and none behind. */
@@ -175,6 +179,25 @@ public final class TermsEdgesTest {
             asked.ends("at " + place, x, 1, false, place, due.charAt(place) == '1' ? place : -1);
         }
         asked.ends("the first anywhere", x, 0, false, 0, due.indexOf('1'));
+    }
+
+    /** Any byte, then what must be so, then any byte or the END: at each place but the first and the last one. */
+    private static void onAWayOverBytes() {
+        String[] due = {"100000", "000001", "100100", "001001", "101011", "010100"};
+        for (int what = 0; what < 6; what++) {
+            StepMachines x = Laid.with(Laid.program(1, Laid.bytes(0, 255, 2), Laid.so(what, 3),
+                    Laid.either(4, 0), Laid.bytes(0, 255, 0)), "ab\n c");
+            for (int place = 1; place <= 5; place++) {
+                boolean so = due[what].charAt(place) == '1';
+                int next = Math.min(5, place + 1);
+                asked.ends("assertion " + what + " behind byte " + place, x, 1, false, place - 1, so ? next : -1);
+            }
+            x.step(3, Laid.EITHER, 0, 0, 4);
+            for (int place = 1; place <= 5; place++) {
+                boolean so = due[what].charAt(place) == '1';
+                asked.ends("assertion " + what + " behind byte " + place, x, 1, false, place - 1, so ? place : -1);
+            }
+        }
     }
 
     private static void byteBefore(int what) {
@@ -219,6 +242,8 @@ public final class TermsEdgesTest {
     private static void ways() {
         sentences.test("Terms", "by EITHER the first one comes ahead of the second one, for all that is behind",
                 TermsEdgesTest::firstAheadOfSecond);
+        sentences.test("Terms", "by EITHER the first one comes ahead of the second one (99 of them in one another)",
+                TermsEdgesTest::eitherInEither);
         sentences.test("Terms", "it never comes to a step again at the same place (it ends otherwise)",
                 TermsEdgesTest::againAtTheSamePlace);
         sentences.test("Terms", "it never comes to a step again at the same place (a loop without a byte)",
@@ -228,6 +253,8 @@ public final class TermsEdgesTest {
         sentences.test("Terms", "it never comes to a step again at the same place (at another place it may)",
                 TermsEdgesTest::againAtAnotherPlace);
         sentences.test("Terms", "each saves what it saved latest at each PLACE", TermsEdgesTest::savedLatest);
+        sentences.test("Terms", "each saves what it saved latest at each PLACE (and nothing of another way)",
+                TermsEdgesTest::eachItsOwn);
     }
 
     /** (aa|a)| and |(aa|a): all of the first one's ways come ahead, the longer and the shorter ones. */
@@ -244,6 +271,28 @@ public final class TermsEdgesTest {
         x.step(1, Laid.EITHER, 0, 3, 2);
         asked.ends("the second one is now the first", x, 1, false, 0, 0);
         asked.ends("but not the longest", x, 1, true, 0, 2);
+    }
+
+    /** 99 EITHERs, each the first one of that ahead of it; the second ones take a byte of their own, or all a 7. */
+    private static void eitherInEither() {
+        for (int same = 0; same < 2; same++) {
+            int[][] steps = new int[199][];
+            for (int i = 1; i <= 99; i++) {
+                steps[i - 1] = Laid.bytes(same == 1 ? 7 : i, 199);
+                steps[98 + i] = Laid.either(i == 99 ? 99 : 100 + i, i == 99 ? 0 : i);
+            }
+            steps[198] = Laid.save(2, 0);
+            StepMachines x = Laid.program(100, steps);
+            for (int b : new int[] {1, 2, 7, 50, 96, 97, 98, 99}) {
+                x.clear();
+                x.put(b, 1);
+                boolean taken = same == 0 || b == 7;
+                boolean first = b == (same == 0 ? 99 : 7);
+                asked.ends("byte " + b + ", longest", x, 1, true, 0, taken ? 1 : 0);
+                asked.ends("byte " + b + ", to the subject's end", x, 2, false, 0, taken ? 1 : -1);
+                asked.ends("byte " + b + ", the END is second of all", x, 1, false, 0, first ? 1 : 0);
+            }
+        }
     }
 
     /** Step 1 leads to itself, first or second: that is no way, and the other one is. */
@@ -307,9 +356,23 @@ public final class TermsEdgesTest {
         asked.saves("saved again on the way", x, 1, false, 1, 2, 2);
     }
 
+    /** The first way is come to the second one's step when that one leaves it, and goes no further. */
+    private static void eachItsOwn() {
+        StepMachines x = Laid.program(1, Laid.either(2, 3), Laid.save(2, 4), Laid.save(3, 5), Laid.bytes('a', 5),
+                Laid.bytes('a', 0));
+        Laid.put(x, "a");
+        asked.saves("of the first way", x, 1, false, 0, 2, -1);
+        asked.saves("of the second way", x, 1, false, 0, 3, 0);
+        Laid.put(x, "a");
+        asked.saves("of the first way, over two bytes", x, 1, false, 0, 2, 0);
+        asked.saves("of the second way, over one byte", x, 1, false, 0, 3, -1);
+    }
+
     private static void matches() {
         sentences.test("Terms", "0 from the first place from there on from which there is a way",
                 TermsEdgesTest::fromTheFirstPlace);
+        sentences.test("Terms", "0 from the first place from there on from which there is a way (with longest)",
+                TermsEdgesTest::aLaterPlaceIsLonger);
         sentences.test("Terms", "1 from that place", TermsEdgesTest::fromThatPlace);
         sentences.test("Terms", "2 from that place, ways that are at the END at the subject's end alone",
                 TermsEdgesTest::toTheSubjectsEnd);
@@ -338,6 +401,22 @@ public final class TermsEdgesTest {
         asked.begins("the last of 200 places with a byte", x, 0, false, 0, 199, 200);
         Laid.lay(x, 1, Laid.so(1, 0));
         asked.begins("the last of 201 places", x, 0, true, 0, 200, 200);
+    }
+
+    /** ab or bcd: when the first way ends, one from a later place is on its way. */
+    private static void aLaterPlaceIsLonger() {
+        StepMachines x = Laid.program(1, Laid.either(2, 4), Laid.bytes('a', 3), Laid.bytes('b', 0),
+                Laid.bytes('b', 5), Laid.bytes('c', 6), Laid.bytes('d', 0));
+        Laid.put(x, "abcd");
+        asked.begins("longest", x, 0, true, 0, 0, 2);
+        asked.begins("not longest", x, 0, false, 0, 0, 2);
+        asked.begins("from the later place", x, 0, true, 1, 1, 4);
+        asked.begins("behind both", x, 0, true, 2, -1, -1);
+        x.step(6, Laid.BYTES, Laid.one('x'), 0, 0);
+        asked.begins("the later one comes to nothing", x, 0, true, 0, 0, 2);
+        x.step(3, Laid.BYTES, Laid.one('x'), 0, 0);
+        x.step(6, Laid.BYTES, Laid.one('d'), 0, 0);
+        asked.begins("the first one comes to nothing", x, 0, true, 0, 1, 4);
     }
 
     private static void fromThatPlace() {
