@@ -195,26 +195,27 @@ public final class StatesEdgesTest {
                 StatesEdgesTest::aRefusedKeepChangesNothing);
     }
 
-    /** a, then 5 of a and b, then c, from anywhere: each 6 bytes before may be another state, more than 64. */
+    /** a, then 6 of a and b, then c, from anywhere: each 7 bytes before are another state, more than 64 in all. */
     private static StepMachines manyStates() {
-        StepMachines x = Laid.program(7, Laid.bytes('c', 0), Laid.bytes('a', 'b', 1), Laid.bytes('a', 'b', 2),
-                Laid.bytes('a', 'b', 3), Laid.bytes('a', 'b', 4), Laid.bytes('a', 'b', 5), Laid.bytes('a', 6));
+        StepMachines x = Laid.program(8, Laid.bytes('c', 0), Laid.bytes('a', 'b', 1), Laid.bytes('a', 'b', 2),
+                Laid.bytes('a', 'b', 3), Laid.bytes('a', 'b', 4), Laid.bytes('a', 'b', 5), Laid.bytes('a', 'b', 6),
+                Laid.bytes('a', 7));
         long noise = 1;
         for (int i = 0; i < 190; i++) {
             noise = noise * 69069 % 4294967291L;
             x.put(noise % 2 == 0 ? 'a' : 'b', 1);
         }
-        Laid.put(x, "abbabbcbab");
+        Laid.put(x, "aabbabbcba");
         return x;
     }
 
     private static void isTold(String what, StepMachines x) {
-        checks.same(what + ": anywhere", x.ends(0, false, 0), 197);
+        checks.same(what + ": anywhere", x.ends(0, false, 0), 198);
         checks.same(what + ": anywhere behind it", x.ends(0, false, 191), -1);
-        checks.same(what + ": here", x.ends(1, false, 190), 197);
-        checks.same(what + ": longest", x.ends(1, true, 190), 197);
+        checks.same(what + ": here", x.ends(1, false, 190), 198);
+        checks.same(what + ": longest", x.ends(1, true, 190), 198);
         checks.same(what + ": to the subject's end", x.ends(2, false, 190), -1);
-        checks.same(what + ": anywhere once more", x.ends(0, false, 0), 197);
+        checks.same(what + ": anywhere once more", x.ends(0, false, 0), 198);
     }
 
     private static void fourToSixtyFour() {
@@ -231,12 +232,12 @@ public final class StatesEdgesTest {
         isTold("no keep() yet", x);
         checks.taken("keep(32)", () -> x.keep(32));
         isTold("keep(32)", x);
-        checks.same("the same by marks", x.match(0, false, 1, 0), 197);
+        checks.same("the same by marks", x.match(0, false, 1, 0), 198);
     }
 
     private static void nothingHangsOnIt() {
         StepMachines x = manyStates();
-        checks.same("match()", x.match(0, false, 0, 0), 197);
+        checks.same("match()", x.match(0, false, 0, 0), 198);
         for (int states : new int[] {64, 4, 63, 5, 4, 64, 33, 31}) {
             x.keep(states);
             isTold("fewer and more, keep(" + states + ")", x);
@@ -244,7 +245,7 @@ public final class StatesEdgesTest {
             isTold("again, keep(" + states + ")", x);
         }
         checks.same("saved(0)", x.saved(0), 190);
-        checks.same("saved(1)", x.saved(1), 197);
+        checks.same("saved(1)", x.saved(1), 198);
         checks.same("over()", x.over(), 0);
         checks.same("isOneWay()", x.isOneWay(), true);
     }
@@ -260,14 +261,14 @@ public final class StatesEdgesTest {
 
     private static void aRefusedKeepChangesNothing() {
         StepMachines x = manyStates();
-        checks.same("match()", x.match(0, false, 2, 0), 197);
+        checks.same("match()", x.match(0, false, 2, 0), 198);
         for (int states : new int[] {3, 65, 0, Laid.MAX, Laid.MIN}) {
             isTold("ahead of keep(" + states + ")", x);
             checks.argument("keep(" + states + ")", () -> x.keep(states));
             isTold("behind keep(" + states + ")", x);
         }
-        checks.same("saved(1)", x.saved(1), 197);
+        checks.same("saved(1)", x.saved(1), 198);
         asked.length("the subject", x, 200);
-        asked.steps("the program", x, 8);
+        asked.steps("the program", x, 9);
     }
 }
