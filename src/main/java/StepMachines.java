@@ -87,12 +87,12 @@ public final class StepMachines {
         if (!program.has(k)) {
             throw new IndexOutOfBoundsException("k is no step");
         }
-        program.beginning = k;
+        program.beginWith(k);
         forgetWhatWasMade();
     }
 
     public boolean put(long v, int n) {
-        if (n < 0 || n > 8 || subject.length + n > MOST_BYTES) {
+        if (n < 0 || n > 8 || subject.length() + n > MOST_BYTES) {
             return false;
         }
         for (int i = n - 1; i >= 0; i--) {
@@ -102,7 +102,7 @@ public final class StepMachines {
     }
 
     public void clear() {
-        subject.length = 0;
+        subject.empty();
     }
 
     public int match(int how, boolean longest, int machine, int from) throws IllegalArgumentException {
@@ -114,9 +114,10 @@ public final class StepMachines {
         }
         Arrays.fill(latest, NONE);
         tally.open();
+        // A table goes from one place alone, and holds one-way programs alone: threads do what it can't.
         if (machine == BY_MARKS) {
             marks.run(how, longest, from);
-        } else if (machine == BY_TABLE && canTable(how)) {
+        } else if (machine == BY_TABLE && how != ANYWHERE && table.isSingleMinded()) {
             table.run(how, longest, from);
         } else {
             threads.run(how, longest, from);
@@ -158,11 +159,11 @@ public final class StepMachines {
     }
 
     private boolean isQuestion(int how, int from) {
-        return how >= ANYWHERE && how <= WHOLE && from >= 0 && from <= subject.length;
+        return how >= ANYWHERE && how <= WHOLE && from >= 0 && from <= subject.length();
     }
 
     private int mostTaken() {
-        return 60 * program.size * (subject.length + 20);
+        return 60 * program.size() * (subject.length() + 20);
     }
 
     private void forgetWhatWasMade() {
@@ -170,19 +171,14 @@ public final class StepMachines {
         states.forget();
     }
 
-    /** A table goes from one place alone, and holds one-way programs alone: threads do what it can't. */
-    private boolean canTable(int how) {
-        return how != ANYWHERE && table.isSingleMinded();
-    }
-
-    /** The steps. What is stored was looked at before: every next step is a step of the program. */
+    /** The steps. What is asked about a number that is no step has an answer, too: it is a NEVER. */
     private static final class Program {
-        final int[] kinds = new int[MOST_STEPS];
-        final int[] values = new int[MOST_STEPS];
-        final int[] firsts = new int[MOST_STEPS];
-        final int[] seconds = new int[MOST_STEPS];
-        int size = 1;
-        int beginning = 0;
+        private final int[] kinds = new int[MOST_STEPS];
+        private final int[] values = new int[MOST_STEPS];
+        private final int[] firsts = new int[MOST_STEPS];
+        private final int[] seconds = new int[MOST_STEPS];
+        private int size = 1;
+        private int beginning = 0;
 
         static boolean isValue(int kind, int value) {
             switch (kind) {
@@ -199,34 +195,64 @@ public final class StepMachines {
         }
 
         void layOut(int n) {
-            size = n;
+            size = Math.max(1, Math.min(n, MOST_STEPS));
             beginning = 0;
-            for (int k = 1; k < MOST_STEPS; k++) {
+            for (int k = 1; k < size; k++) {
                 change(k, NEVER, 0, 0, 0);
             }
         }
 
-        /** What does not count is stored as 0, since it may be anything and must never be used as an index. */
+        /** What does not count is stored as 0, since it may be anything. */
         void change(int k, int kind, int value, int first, int second) {
-            kinds[k] = kind;
-            values[k] = kind == EITHER || kind == NEVER ? 0 : value;
-            firsts[k] = kind == NEVER ? 0 : first;
-            seconds[k] = kind == EITHER ? second : 0;
+            if (k != END && has(k)) {
+                kinds[k] = kind;
+                values[k] = kind == EITHER || kind == NEVER ? 0 : value;
+                firsts[k] = kind == NEVER ? 0 : first;
+                seconds[k] = kind == EITHER ? second : 0;
+            }
+        }
+
+        void beginWith(int k) {
+            beginning = has(k) ? k : beginning;
+        }
+
+        int beginning() {
+            return beginning;
+        }
+
+        int size() {
+            return size;
         }
 
         boolean has(int k) {
             return k >= 0 && k < size;
         }
 
+        int kindOf(int k) {
+            return has(k) ? kinds[k] : NEVER;
+        }
+
+        int valueOf(int k) {
+            return has(k) ? values[k] : 0;
+        }
+
+        int firstOf(int k) {
+            return has(k) ? firsts[k] : NONE;
+        }
+
+        int secondOf(int k) {
+            return has(k) ? seconds[k] : NONE;
+        }
+
         boolean takes(int k, int b) {
-            return b >= values[k] / BYTE_VALUES && b <= values[k] % BYTE_VALUES;
+            return has(k) && kinds[k] == BYTES && b >= values[k] / BYTE_VALUES && b <= values[k] % BYTE_VALUES;
         }
     }
 
     /** The bytes, and what is so between them. */
     private static final class Subject {
         private final int[] bytes = new int[MOST_BYTES];
-        int length = 0;
+        private int length = 0;
 
         /** A bit for each assertion, so that what is so between two bytes is found out but once. */
         static int whatIsSo(int before, int behind) {
@@ -250,9 +276,17 @@ public final class StepMachines {
             return b >= '0' && b <= '9' || b >= 'A' && b <= 'Z' || b >= 'a' && b <= 'z' || b == '_';
         }
 
+        void empty() {
+            length = 0;
+        }
+
+        int length() {
+            return length;
+        }
+
         void append(int b) {
             if (length < MOST_BYTES) {
-                bytes[length] = b;
+                bytes[length] = b & 255;
                 length++;
             }
         }
@@ -292,9 +326,9 @@ public final class StepMachines {
 
     /** Steps in order, and which steps were met while the row was made. */
     private static final class Row {
-        final int[] steps = new int[MOST_STEPS];
-        int count = 0;
+        private final int[] steps = new int[MOST_STEPS];
         private final int[] met = new int[MOST_STEPS];
+        private int count = 0;
         private int turn = 1;
 
         /** A new number for the turn makes all steps unmet without a walk over them. */
@@ -303,8 +337,9 @@ public final class StepMachines {
             turn++;
         }
 
+        /** What is no step is never met anew. */
         boolean meets(int step) {
-            if (met[step] == turn) {
+            if (step < 0 || step >= MOST_STEPS || met[step] == turn) {
                 return false;
             }
             met[step] = turn;
@@ -316,6 +351,14 @@ public final class StepMachines {
                 steps[count] = step;
                 count++;
             }
+        }
+
+        int count() {
+            return count;
+        }
+
+        int get(int i) {
+            return i >= 0 && i < count ? steps[i] : NONE;
         }
     }
 
@@ -367,6 +410,14 @@ public final class StepMachines {
             }
         }
 
+        /** The job that puts back is left behind. */
+        void save(int k, int place, int[] places) {
+            if (k >= 0 && k < places.length) {
+                add(putBackOf(k, places[k]));
+                places[k] = place;
+            }
+        }
+
         void drop() {
             count = 0;
         }
@@ -379,7 +430,7 @@ public final class StepMachines {
             int at = count / EACH;
             if (at < fours.length) {
                 int shift = count % EACH * BITS;
-                fours[at] = fours[at] & ~(ONE_JOB << shift) | (long) job << shift;
+                fours[at] = fours[at] & ~(ONE_JOB << shift) | (job & ONE_JOB) << shift;
                 count++;
             }
         }
@@ -419,7 +470,7 @@ public final class StepMachines {
 
         void run(int how, boolean longest, int from) {
             here.empty();
-            for (int place = from; place <= subject.length; place++) {
+            for (int place = from; place <= subject.length(); place++) {
                 if (best[1] == NONE && (how == ANYWHERE || place == from)) {
                     beginThread(place);
                 }
@@ -434,29 +485,45 @@ public final class StepMachines {
             Arrays.fill(now, NONE);
             now[0] = place;
             so = subject.whatIsSoAt(place);
-            comeTo(program.beginning, place, here, savedHere);
+            comeTo(program.beginning(), place, here, savedHere);
         }
 
         private void goOverByte(int how, boolean longest, int place) {
             int b = subject.byteBehind(place);
             so = subject.whatIsSoAt(place + 1);
-            for (int i = 0; i < here.count; i++) {
-                int step = here.steps[i];
-                if (best[1] != NONE && savedHere[step * PLACES] > best[0]) {
+            for (int i = 0; i < here.count(); i++) {
+                int step = here.get(i);
+                if (best[1] != NONE && beginningOf(step) > best[0]) {
                     continue;
                 }
                 if (step == END) {
                     if (subject.mayEnd(how, place)) {
-                        System.arraycopy(savedHere, step * PLACES, best, 0, PLACES);
+                        readSaved(step, best);
                         best[1] = place;
                         if (!longest) {
                             return;
                         }
                     }
                 } else if (program.takes(step, b)) {
-                    System.arraycopy(savedHere, step * PLACES, now, 0, PLACES);
-                    comeTo(program.firsts[step], place + 1, next, savedNext);
+                    readSaved(step, now);
+                    comeTo(program.firstOf(step), place + 1, next, savedNext);
                 }
+            }
+        }
+
+        private int beginningOf(int step) {
+            return program.has(step) ? savedHere[step * PLACES] : NONE;
+        }
+
+        private void readSaved(int step, int[] places) {
+            if (program.has(step)) {
+                System.arraycopy(savedHere, step * PLACES, places, 0, PLACES);
+            }
+        }
+
+        private void writeSaved(int step, int[] saved) {
+            if (program.has(step)) {
+                System.arraycopy(now, 0, saved, step * PLACES, PLACES);
             }
         }
 
@@ -487,25 +554,24 @@ public final class StepMachines {
             if (!row.meets(step)) {
                 return;
             }
-            int value = program.values[step];
-            switch (program.kinds[step]) {
+            int value = program.valueOf(step);
+            switch (program.kindOf(step)) {
                 case END:
                 case BYTES:
                     row.add(step);
-                    System.arraycopy(now, 0, saved, step * PLACES, PLACES);
+                    writeSaved(step, saved);
                     break;
                 case EITHER:
-                    jobs.add(program.seconds[step]);
-                    jobs.add(program.firsts[step]);
+                    jobs.add(program.secondOf(step));
+                    jobs.add(program.firstOf(step));
                     break;
                 case SAVE:
-                    jobs.add(Jobs.putBackOf(value, now[value]));
-                    now[value] = place;
-                    jobs.add(program.firsts[step]);
+                    jobs.save(value, place, now);
+                    jobs.add(program.firstOf(step));
                     break;
                 case ASSERT:
                     if ((so >> value & 1) != 0) {
-                        jobs.add(program.firsts[step]);
+                        jobs.add(program.firstOf(step));
                     }
                     break;
                 default:
@@ -541,7 +607,7 @@ public final class StepMachines {
         /** The marks stay from one beginning to the next: what led to no END leads to none later, either. */
         void run(int how, boolean longest, int from) {
             wipe();
-            int last = how == ANYWHERE ? subject.length : from;
+            int last = how == ANYWHERE ? subject.length() : Math.min(from, subject.length());
             for (int place = from; place <= last && best[1] == NONE; place++) {
                 tryFrom(place, how, longest);
             }
@@ -549,7 +615,7 @@ public final class StepMachines {
 
         /** Only what this program and this subject can mark: a small program is not to pay for the largest. */
         private void wipe() {
-            int words = program.size * (subject.length + 1) / WORD_BITS + 1;
+            int words = program.size() * (subject.length() + 1) / WORD_BITS + 1;
             for (int word = 0; word < words && word < tried.length; word++) {
                 tried[word] = 0;
             }
@@ -559,7 +625,7 @@ public final class StepMachines {
             Arrays.fill(now, NONE);
             now[0] = first;
             jobs.drop();
-            jobs.add(Jobs.stepAt(program.beginning, first));
+            jobs.add(Jobs.stepAt(program.beginning(), first));
             for (int turn = 0; turn < MOST_TURNS && !jobs.isEmpty(); turn++) {
                 int job = jobs.take();
                 if (Jobs.isPutBack(job)) {
@@ -574,7 +640,7 @@ public final class StepMachines {
         }
 
         private boolean isNew(int step, int place) {
-            int pair = place * program.size + step;
+            int pair = place * program.size() + step;
             int word = pair / WORD_BITS;
             int bit = 1 << (pair % WORD_BITS);
             if (word < 0 || word >= tried.length || (tried[word] & bit) != 0) {
@@ -589,28 +655,27 @@ public final class StepMachines {
             if (!isNew(step, place)) {
                 return;
             }
-            int value = program.values[step];
-            switch (program.kinds[step]) {
+            int value = program.valueOf(step);
+            switch (program.kindOf(step)) {
                 case END:
                     end(place, how);
                     break;
                 case BYTES:
                     if (program.takes(step, subject.byteBehind(place))) {
-                        jobs.add(Jobs.stepAt(program.firsts[step], place + 1));
+                        jobs.add(Jobs.stepAt(program.firstOf(step), place + 1));
                     }
                     break;
                 case EITHER:
-                    jobs.add(Jobs.stepAt(program.seconds[step], place));
-                    jobs.add(Jobs.stepAt(program.firsts[step], place));
+                    jobs.add(Jobs.stepAt(program.secondOf(step), place));
+                    jobs.add(Jobs.stepAt(program.firstOf(step), place));
                     break;
                 case SAVE:
-                    jobs.add(Jobs.putBackOf(value, now[value]));
-                    now[value] = place;
-                    jobs.add(Jobs.stepAt(program.firsts[step], place));
+                    jobs.save(value, place, now);
+                    jobs.add(Jobs.stepAt(program.firstOf(step), place));
                     break;
                 case ASSERT:
                     if ((subject.whatIsSoAt(place) >> value & 1) != 0) {
-                        jobs.add(Jobs.stepAt(program.firsts[step], place));
+                        jobs.add(Jobs.stepAt(program.firstOf(step), place));
                     }
                     break;
                 default:
@@ -633,6 +698,7 @@ public final class StepMachines {
      */
     private static final class Table {
         private static final int MOST_ROWS = 64;
+        private static final int NEXT_ROW = MOST_ROWS - 1;
         private static final int BEHIND_END = MOST_ROWS;
         private static final int CONDITIONS_FROM = 7;
         private static final int ASSERTIONS_FROM = PLACES - FIRST_SAVE;
@@ -675,7 +741,7 @@ public final class StepMachines {
         private void make() {
             Arrays.fill(rowOfStep, NONE);
             rows = 0;
-            rowFor(program.beginning);
+            rowFor(program.beginning());
             single = true;
             for (int row = 0; row < MOST_ROWS && row < rows && single; row++) {
                 single = makeRow(row);
@@ -684,6 +750,9 @@ public final class StepMachines {
 
         /** NONE if there would be too many rows. */
         private int rowFor(int step) {
+            if (!program.has(step)) {
+                return NONE;
+            }
             if (rowOfStep[step] == NONE && rows < MOST_ROWS) {
                 rowOfStep[step] = rows;
                 stepOfRow[rows] = step;
@@ -711,27 +780,29 @@ public final class StepMachines {
 
         /** One note for each step is enough: a step that waits twice is come to twice, and then no row is made. */
         private void later(int step, int conditions) {
-            since[step] = conditions;
-            jobs.add(step);
+            if (program.has(step)) {
+                since[step] = conditions;
+                jobs.add(step);
+            }
         }
 
         private boolean walk(int row, int step, int conditions) {
-            int value = program.values[step];
-            switch (program.kinds[step]) {
+            int value = program.valueOf(step);
+            switch (program.kindOf(step)) {
                 case END:
                     endings[row] = conditions;
                     return true;
                 case BYTES:
                     return takeBytes(row, step, conditions);
                 case EITHER:
-                    later(program.seconds[step], conditions);
-                    later(program.firsts[step], conditions);
+                    later(program.secondOf(step), conditions);
+                    later(program.firstOf(step), conditions);
                     return true;
                 case SAVE:
-                    later(program.firsts[step], conditions | 1 << (value - FIRST_SAVE));
+                    later(program.firstOf(step), conditions | 1 << (value - FIRST_SAVE));
                     return true;
                 case ASSERT:
-                    later(program.firsts[step], conditions | 1 << (ASSERTIONS_FROM + value));
+                    later(program.firstOf(step), conditions | 1 << (ASSERTIONS_FROM + value));
                     return true;
                 default:
                     return true;
@@ -739,20 +810,20 @@ public final class StepMachines {
         }
 
         private boolean takeBytes(int row, int step, int conditions) {
-            int next = rowFor(program.firsts[step]);
+            int next = rowFor(program.firstOf(step));
             if (next == NONE) {
                 return false;
             }
             int order = endings[row] == NONE ? 0 : BEHIND_END;
             int action = conditions << CONDITIONS_FROM | order | next;
-            for (int b = 0; b < BYTE_VALUES; b++) {
+            int low = program.valueOf(step) / BYTE_VALUES;
+            int high = program.valueOf(step) % BYTE_VALUES;
+            for (int b = Math.max(0, low); b < BYTE_VALUES && b <= high; b++) {
                 int at = row * BYTE_VALUES + b;
-                if (program.takes(step, b)) {
-                    if (actions[at] != NONE && actions[at] != action) {
-                        return false;
-                    }
-                    actions[at] = action;
+                if (actions[at] != NONE && actions[at] != action) {
+                    return false;
                 }
+                actions[at] = action;
             }
             return true;
         }
@@ -761,7 +832,7 @@ public final class StepMachines {
             Arrays.fill(now, NONE);
             now[0] = from;
             int row = 0;
-            for (int place = from; place <= subject.length; place++) {
+            for (int place = from; place <= subject.length(); place++) {
                 tally.count();
                 boolean ended = endHere(row, how, place);
                 int b = subject.byteBehind(place);
@@ -774,7 +845,7 @@ public final class StepMachines {
                     return;
                 }
                 save(conditions, place, now);
-                row = action % MOST_ROWS;
+                row = action & NEXT_ROW;
             }
         }
 
@@ -870,12 +941,16 @@ public final class StepMachines {
             return kept;
         }
 
+        boolean has(int state) {
+            return state >= 0 && state < kept;
+        }
+
         int labelOf(int state) {
-            return labels[state];
+            return has(state) ? labels[state] : 0;
         }
 
         int countOf(int state) {
-            return counts[state];
+            return has(state) ? counts[state] : 0;
         }
 
         int stepOf(int state, int i) {
@@ -907,18 +982,18 @@ public final class StepMachines {
 
         private static int sumOf(Row row, int label) {
             int sum = label;
-            for (int i = 0; i < row.count; i++) {
-                sum = sum * 31 + row.steps[i] + 1;
+            for (int i = 0; i < row.count(); i++) {
+                sum = sum * 31 + row.get(i) + 1;
             }
             return sum;
         }
 
         private boolean isSame(int state, Row row, int label) {
-            if (labels[state] != label || counts[state] != row.count) {
+            if (labels[state] != label || counts[state] != row.count()) {
                 return false;
             }
-            for (int i = 0; i < row.count; i++) {
-                if (stepOf(state, i) != row.steps[i]) {
+            for (int i = 0; i < row.count(); i++) {
+                if (stepOf(state, i) != row.get(i)) {
                     return false;
                 }
             }
@@ -926,11 +1001,11 @@ public final class StepMachines {
         }
 
         private void add(Row row, int label, int sum) {
-            counts[kept] = row.count;
+            counts[kept] = row.count();
             labels[kept] = label;
             sums[kept] = sum;
-            for (int i = 0; i < row.count; i++) {
-                steps.set(kept * MOST_STEPS + i, row.steps[i]);
+            for (int i = 0; i < row.count(); i++) {
+                steps.set(kept * MOST_STEPS + i, row.get(i));
             }
             moves.wipe(kept * MOVES_ROOM, MOVES_ROOM);
             kept++;
@@ -981,7 +1056,7 @@ public final class StepMachines {
         int run(int how, boolean longest, int from) {
             int state = firstState(goalOf(how, longest), subject.byteBehind(from - 1));
             int end = NONE;
-            for (int place = from; place <= subject.length && state != NOWHERE; place++) {
+            for (int place = from; place <= subject.length() && state != NOWHERE; place++) {
                 int b = subject.byteBehind(place);
                 int move = moveFrom(state, b == NONE ? NO_BYTE : b);
                 if (move % 2 != 0) {
@@ -1015,7 +1090,7 @@ public final class StepMachines {
         private int firstState(int goal, int before) {
             onward.empty();
             if (goal != FIND) {
-                onward.add(program.beginning);
+                onward.add(program.beginning());
             }
             return kept.numberOf(onward, labelOf(goal, before));
         }
@@ -1032,7 +1107,7 @@ public final class StepMachines {
             int goalThen = ended && goal == FIND ? TAKE_FIRST : goal;
             int keptBefore = kept.count();
             int next = NOWHERE;
-            if (symbol != NO_BYTE && (onward.count > 0 || goalThen == FIND)) {
+            if (symbol != NO_BYTE && (onward.count() > 0 || goalThen == FIND)) {
                 next = kept.numberOf(onward, labelOf(goalThen, symbol));
             }
             int move = (next + 2) * 2 + (ended ? 1 : 0);
@@ -1044,7 +1119,7 @@ public final class StepMachines {
 
         /** Whether the END was come to. What comes behind it in order is left out, but for the longest. */
         private boolean goOver(int state, int symbol, int goal) {
-            int before = BEFORE[kept.labelOf(state) % BEFORE.length];
+            int before = BEFORE[Math.floorMod(kept.labelOf(state), BEFORE.length)];
             so = Subject.whatIsSo(before, symbol == NO_BYTE ? NONE : symbol);
             walked.empty();
             onward.empty();
@@ -1059,7 +1134,7 @@ public final class StepMachines {
                 }
             }
             if (goal == FIND) {
-                ended = follow(program.beginning, symbol, goal);
+                ended = follow(program.beginning(), symbol, goal);
             }
             return ended;
         }
@@ -1087,22 +1162,22 @@ public final class StepMachines {
         }
 
         private void visit(int step, int symbol) {
-            switch (program.kinds[step]) {
+            switch (program.kindOf(step)) {
                 case BYTES:
-                    if (program.takes(step, symbol) && onward.meets(program.firsts[step])) {
-                        onward.add(program.firsts[step]);
+                    if (program.takes(step, symbol) && onward.meets(program.firstOf(step))) {
+                        onward.add(program.firstOf(step));
                     }
                     break;
                 case EITHER:
-                    jobs.add(program.seconds[step]);
-                    jobs.add(program.firsts[step]);
+                    jobs.add(program.secondOf(step));
+                    jobs.add(program.firstOf(step));
                     break;
                 case SAVE:
-                    jobs.add(program.firsts[step]);
+                    jobs.add(program.firstOf(step));
                     break;
                 case ASSERT:
-                    if ((so >> program.values[step] & 1) != 0) {
-                        jobs.add(program.firsts[step]);
+                    if ((so >> program.valueOf(step) & 1) != 0) {
+                        jobs.add(program.firstOf(step));
                     }
                     break;
                 default:

@@ -16,15 +16,26 @@ final class Checks {
     void same(String what, long got, long due) {
         made++;
         if (got != due) {
-            wrong++;
-            if (wrong <= 50) {
-                System.out.println(about + what + " answered " + got + ", due is " + due);
-            }
+            tellWrong(what, String.valueOf(got), String.valueOf(due));
         }
     }
 
     void same(String what, boolean got, boolean due) {
         same(what, got ? 1 : 0, due ? 1 : 0);
+    }
+
+    void same(String what, String got, String due) {
+        made++;
+        if (!got.equals(due)) {
+            tellWrong(what, got, due);
+        }
+    }
+
+    private void tellWrong(String what, String got, String due) {
+        wrong++;
+        if (wrong <= 50) {
+            System.out.println(about + what + " answered " + got + ", due is " + due);
+        }
     }
 
     void index(String what, Runnable call) {
