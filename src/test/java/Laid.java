@@ -64,6 +64,31 @@ final class Laid {
         return program(1, bytes(b, 2), either(1, 0));
     }
 
+    /**
+     * Nearly 200 steps over 199 times a and a z: one of some rows of BYTES that take an a and never come to the END,
+     * or else a and z. Ways from many places before are under way at 199, and the only one that is ever at the END,
+     * from 198, is the last of them in order.
+     */
+    static StepMachines manyAtOnce(int rows) {
+        int length = (197 - rows) / rows;
+        int a = rows + 1;
+        int[][] steps = new int[rows + 2 + rows * length][];
+        steps[a - 1] = bytes('a', a + 1);
+        steps[a] = bytes('z', 0);
+        for (int row = 1; row <= rows; row++) {
+            int begins = a + 2 + (row - 1) * length;
+            int ends = begins + length - 1;
+            steps[row - 1] = either(begins, row + 1);
+            for (int k = begins; k <= ends; k++) {
+                steps[k - 1] = bytes('a', Math.min(k + 1, ends));
+            }
+        }
+        StepMachines x = program(1, steps);
+        fill(x, 'a', 199);
+        x.put('z', 1);
+        return x;
+    }
+
     static boolean put(StepMachines x, String text) {
         boolean all = true;
         for (int i = 0; i < text.length(); i++) {

@@ -17,6 +17,8 @@ public final class MatchEdgesTest {
                 MatchEdgesTest::fromEachPlace);
         sentences.test("Promise 7", "by whichever machine (0 rows of threads, 1 marks, 2 a table, as far as these can)",
                 MatchEdgesTest::whatATableCannot);
+        sentences.test("Promise 7", "by whichever machine (0 rows of threads (198 of them), 1 marks, 2 a table ..)",
+                MatchEdgesTest::manyAtOnce);
         sentences.test("Promise 7", "where it ends", MatchEdgesTest::whereItEnds);
         sentences.test("Promise 7", "NONE without one", MatchEdgesTest::noneWithoutOne);
     }
@@ -60,6 +62,19 @@ public final class MatchEdgesTest {
             asked.begins("a chain of " + n, z, 1, false, 1, 1, 1 + n);
             asked.ends("a chain of " + n, z, 2, false, 66 - n, 66);
             asked.ends("a chain of " + n, z, 1, true, 67 - n, -1);
+        }
+    }
+
+    private static void manyAtOnce() {
+        for (int rows : new int[] {1, 2, 4, 20, 98}) {
+            StepMachines x = Laid.manyAtOnce(rows);
+            for (int from : new int[] {0, 1, 2, 3, 4, 100, 197, 198}) {
+                asked.begins(rows + " rows, the last of many", x, 0, false, from, 198, 200);
+                asked.begins(rows + " rows, the last of many", x, 0, true, from, 198, 200);
+            }
+            asked.begins(rows + " rows, the last of many", x, 2, false, 198, 198, 200);
+            asked.begins(rows + " rows, behind it", x, 0, false, 199, -1, -1);
+            checks.same(rows + " rows: over()", x.over(), 0);
         }
     }
 

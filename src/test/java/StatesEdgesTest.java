@@ -18,6 +18,8 @@ public final class StatesEdgesTest {
                 StatesEdgesTest::ofWhatWasChanged);
         sentences.test("Promise 9", "by states (the byte before the place)", StatesEdgesTest::theByteBefore);
         sentences.test("Promise 9", "by states (such as are much alike)", StatesEdgesTest::statesMuchAlike);
+        sentences.test("Promise 9", "by states (of up to 196 steps, come to again from another place)",
+                StatesEdgesTest::largeStates);
         sentences.test("Promise 9", "IllegalArgumentException: as for match() (no such how)",
                 StatesEdgesTest::noSuchHow);
         sentences.test("Promise 9", "IllegalArgumentException: as for match() (no such place)",
@@ -118,6 +120,22 @@ public final class StatesEdgesTest {
         x.step(7, Laid.BYTES, Laid.one('b'), 49, 0);
         x.step(61, Laid.BYTES, Laid.one('q'), 0, 0);
         alike(x, "ap", 2, "bq", 2, "bp", -1, "aq", -1);
+    }
+
+    /** The z is a new byte for the state that it comes to from each other place: its last step must still be there. */
+    private static void largeStates() {
+        for (int rows : new int[] {1, 2, 4, 20, 98}) {
+            for (int states : new int[] {4, 32, 64}) {
+                String what = rows + " rows, keep(" + states + "): ";
+                StepMachines x = Laid.manyAtOnce(rows);
+                x.keep(states);
+                for (int from = 0; from < 199; from++) {
+                    checks.same(what + "ends(0, false, " + from + ")", x.ends(0, false, from), 200);
+                }
+                checks.same(what + "ends(0, false, 199)", x.ends(0, false, 199), -1);
+                checks.same(what + "over()", x.over(), 0);
+            }
+        }
     }
 
     private static void alike(StepMachines x, Object... due) {
